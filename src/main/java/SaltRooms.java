@@ -935,15 +935,15 @@ public final class SaltRooms {
         }
 
         private void closeBracket() {
+            int start = depth < 1 ? toldLevels : starts[depth - 1];
+            int unit = toldLevels - start;
             // Every ITEM tells a LEVEL at least: none told since the bracket opened, no ITEM in it.
-            if (depth < 1 || toldLevels == starts[depth - 1]) {
+            if (unit < 1) {
                 fault = at;
                 return;
             }
             at++;
             depth--;
-            int start = starts[depth];
-            int unit = toldLevels - start;
             int many = readCount(start, unit);
             for (int i = 0; i < unit * (many - 1) && toldLevels < LEVELS; i++) {
                 kinds[toldLevels] = kinds[start + i % unit];
@@ -986,10 +986,6 @@ public final class SaltRooms {
     private static final class Rock {
         private final int[] kinds = new int[LEVELS];
         private final int[] laws = {90, 80, 70, 60, 50, 40, 30, 20, 10, 0};
-
-        private boolean isHard(int level) {
-            return kindAt(level) == HARD;
-        }
 
         private int tenthsThatStay(int level) {
             int kind = kindAt(level);
@@ -1090,7 +1086,7 @@ public final class SaltRooms {
         }
 
         private int lossAt(int level, int loss, Rock rock) {
-            if (rock.isHard(level)) {
+            if (rock.kindAt(level) == HARD) {
                 return 0;
             }
             int w = level == roof ? loss / 2 : loss;

@@ -8,6 +8,7 @@ public final class BedsTest {
         feedKeepsItsBytesInOrder();
         beds();
         faults();
+        faultsLeaveNothing();
         bedsWithCaverns();
         bed();
         cavern();
@@ -179,6 +180,16 @@ public final class BedsTest {
         fault(" s30", 0);
         fault("s30\n", 3);
         fault("(s1s1s1s1s1s1s1s1s1s1s1s1s1s1s1s1s1s1s1s1s1s1s1s1s1s1s1s1s1", 59);
+    }
+
+    private static void faultsLeaveNothing() {
+        SaltRooms x = Due.rooms("h30");
+        Due.feed(x, "s5d95x");
+        DUE.is("a fault behind some beds", x.beds(), -25);
+        Due.feed(x, "x");
+        DUE.is("a fault at the first byte", x.beds(), -20);
+        DUE.is("bed(0)", x.bed(0), 10);
+        DUE.is("bed(5)", x.bed(5), 10);
     }
 
     private static void fault(String text, int place) {

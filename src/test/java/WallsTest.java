@@ -174,12 +174,14 @@ public final class WallsTest {
     }
 
     private static void fallThatCutsNothing() {
-        for (int way = 0; way < 4; way++) {
-            SaltRooms x = Build.strong();
-            Build.reaching(x, 100, 4, 7, 7, 1, 10);
-            x.string(0, way % 2 == 0 ? 6 : 7, way / 2 == 0 ? 5 : 7, 7);
-            x.fall(0, 6);
-            DUE.is("CUT by way " + way, x.of(0, 11), way == 0 ? 0 : 1);
+        for (int water = 4; water <= 7; water++) {
+            for (int brine = 4; brine <= 7; brine++) {
+                SaltRooms x = Build.strong();
+                Build.reaching(x, 100, 4, 7, 7, 1, 10);
+                x.string(0, water, brine, 7);
+                x.fall(0, 6);
+                DUE.is("CUT at " + water + " and " + brine, x.of(0, 11), water == 7 || brine == 7 ? 1 : 0);
+            }
         }
     }
 
@@ -328,6 +330,12 @@ public final class WallsTest {
         x.reading(0, 4, 45, 2);
         x.reading(0, 3, 11, 0);
         DUE.is("the first behind which", x.quarrel(0), 6);
+        SaltRooms y = new SaltRooms();
+        y.cavern(5, 3, 5);
+        y.reading(0, 3, 10, 2);
+        y.reading(0, 3, 12, 2);
+        y.reading(0, 3, 20, 2);
+        DUE.is("the last of three", y.quarrel(0), 2);
         DUE.is("no cavern", x.quarrel(2), -1);
         DUE.is("no cavern", x.quarrel(-1), -1);
     }

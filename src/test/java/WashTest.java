@@ -12,6 +12,8 @@ public final class WashTest {
         stepThatTakesNothing();
         stepRefused();
         stepAndWalls();
+        stepAtOnePlace();
+        stepToTheGreatestSize();
         fullRings();
         roofIsNeverFull();
         half();
@@ -169,6 +171,36 @@ public final class WashTest {
         DUE.is("step(1, 99)", x.step(1, 99), 49);
         DUE.is("step(1, 99)", x.step(1, 99), 49);
         DUE.is("step(1, 99)", x.step(1, 99), -7);
+    }
+
+    private static void stepAtOnePlace() {
+        SaltRooms x = Due.rooms("h30");
+        x.cavern(100, 4, 6);
+        x.cavern(100, 6, 8);
+        DUE.is("a wall of -2 that nothing makes thinner", x.step(0, 99), -7);
+        x.set(2, 0);
+        DUE.is("below 0 too", x.step(0, 99), -7);
+        SaltRooms y = Due.rooms("h30");
+        y.cavern(100, 4, 6);
+        y.cavern(102, 6, 8);
+        y.set(2, 0);
+        DUE.is("a wall of 0", y.step(0, 99), 0);
+    }
+
+    /** It takes more than 512 calls; the document promises no answers behind them, but this class keeps its word. */
+    private static void stepToTheGreatestSize() {
+        SaltRooms x = Due.rooms("s10d520");
+        x.law(0, 99);
+        x.cavern(5, 8, 10);
+        x.string(0, 9, 9, 9);
+        for (int i = 0; i < 1020; i++) {
+            x.step(0, 99);
+        }
+        DUE.is("SIZE", x.ring(0, 9, 0), 99961);
+        DUE.is("no more than 99999", x.step(0, 99), 38);
+        DUE.is("SIZE", x.ring(0, 9, 0), 99999);
+        DUE.is("REACH", x.ring(0, 9, 1), 316);
+        DUE.is("no more", x.step(0, 99), 0);
     }
 
     private static void fullRings() {

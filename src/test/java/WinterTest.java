@@ -51,6 +51,12 @@ public final class WinterTest {
         DUE.is("b 100", x.test(0, 1, 0, 0, 99, 100), -6);
         x.cavern(50, 3, 5);
         DUE.is("another's first", x.test(1, 99, 9999, 99, -99, 99), 1);
+        x.cavern(500, 3, 5);
+        DUE.is("the least numbers", x.test(2, 1, 0, 0, -99, -99), 1);
+        DUE.is("a LEAK of", x.leak(2, 0), 99);
+        x.cavern(600, 3, 5);
+        DUE.is("the greatest numbers", x.test(3, 99, 9999, 99, 99, 99), 1);
+        DUE.is("a LEAK of", x.leak(3, 1), 3);
         for (int i = 1; i <= 6; i++) {
             DUE.is("test " + i, x.test(0, 1, 0, 99, -99, 99), i);
         }
@@ -175,7 +181,8 @@ public final class WinterTest {
         DUE.is("gives -1", x.gives(0, -1), -4);
         DUE.is("gives 1000", x.gives(0, 1000), -6);
         DUE.is("gives(0, 999)", x.gives(0, 999), 0);
-        DUE.is("gives(0, 7)", x.gives(0, 7), 999);
+        DUE.is("gives(0, 0)", x.gives(0, 0), 999);
+        DUE.is("gives(0, 7)", x.gives(0, 7), 0);
         x.giveUp(0);
         DUE.is("a given up one", x.gives(0, 8), 7);
     }
@@ -348,6 +355,9 @@ public final class WinterTest {
         DUE.is("another ring's", x.plan(0, 4, 0), 4);
         x.aim(3, 0);
         DUE.is("no aim", x.plan(0, 4, 0), 2);
+        x.aim(5, 1);
+        DUE.is("an aim of 1", x.plan(0, 1, 0), 18);
+        x.aim(5, 75);
         DUE.is("nothing changed", x.ring(0, 5, 0), 1);
         DUE.is("nothing changed", x.of(0, 0), 0);
         DUE.is("nothing changed", x.of(0, 12) * 10 + x.of(0, 13), 53);

@@ -7,6 +7,8 @@ public final class YearsTest {
         yearsOfStates();
         yearsUnderPush();
         yearsFillRings();
+        yearsUnderGreatPush();
+        yearsInWholeNumbers();
         set();
         between();
         fillOil();
@@ -16,14 +18,17 @@ public final class YearsTest {
         fillRefused();
         lots();
         lotsAtMost();
+        lotsPutTogether();
         owner();
         has();
         spread();
         sinks();
+        sinksFar();
         worst();
         close();
         giveUp();
         breach();
+        breachAtItsLastYear();
         breachRefused();
         DUE.end();
     }
@@ -132,6 +137,34 @@ public final class YearsTest {
         DUE.is("what fell is as it was", x.of(0, 2), 40);
         x.years(1);
         DUE.is("its SIZE stays", x.ring(0, 21, 0), 32);
+    }
+
+    /** When RINGS creep below what OIL fills, all GAS is a PUSH: here 19, and LEVEL 2 and 10 are less. */
+    private static void yearsUnderGreatPush() {
+        SaltRooms x = Build.strong();
+        Build.cavern(x, 5, 1, 400, 400);
+        x.fill(0, false, 790, true);
+        x.fill(0, true, 19, true);
+        x.set(1, 99);
+        x.set(0, 99);
+        DUE.is("PUSH", x.of(0, 5), 1);
+        x.years(1);
+        sizes("a year", x, 0, 1, 361, 357);
+        DUE.is("PUSH", x.of(0, 5), 19);
+        DUE.is("ROOM", x.of(0, 4), 718);
+        x.years(3);
+        sizes("nothing creeps", x, 0, 1, 361, 357);
+        DUE.is("nor between", x.between(0, 2, 60, false), 357);
+    }
+
+    /** 100 times 50 times 20 by 10000 is just 10. */
+    private static void yearsInWholeNumbers() {
+        SaltRooms x = Build.strong();
+        Build.cavern(x, 5, 10, 100, 99);
+        x.set(1, 50);
+        x.set(0, 50);
+        x.years(1);
+        sizes("a year", x, 0, 10, 90, 89);
     }
 
     private static void set() {
@@ -341,6 +374,18 @@ public final class YearsTest {
         DUE.is("has(2, drawn)", x.has(2, 0, true), 2);
     }
 
+    private static void lotsPutTogether() {
+        SaltRooms x = three();
+        x.fill(0, false, 1, true);
+        x.fill(0, false, 1, true);
+        for (int i = 1; i < 30; i++) {
+            x.owner(i % 2);
+            DUE.is("lot " + i, x.fill(0, false, 1, true), i + 2);
+        }
+        x.owner(5);
+        DUE.is("lot 30", x.fill(0, false, 1, true), -6);
+    }
+
     private static void owner() {
         SaltRooms x = new SaltRooms();
         DUE.is("owner(-1)", x.owner(-1), -1);
@@ -412,6 +457,20 @@ public final class YearsTest {
         DUE.is("38 times 300 and 20 times 100", x.sinks(100), 13);
         x.spread(0);
         DUE.is("no spread", x.sinks(100), 0);
+    }
+
+    private static void sinksFar() {
+        SaltRooms x = Build.strong();
+        int[] big = new int[30];
+        java.util.Arrays.fill(big, 900);
+        Build.cavern(x, 100, 0, big);
+        x.set(1, 99);
+        x.set(0, 99);
+        x.years(20);
+        DUE.is("near", x.sinks(199) > 10 ? 1 : 0, 1);
+        DUE.is("as far as it spreads", x.sinks(200), 0);
+        DUE.is("farther", x.sinks(201), 0);
+        DUE.is("far", x.sinks(999), 0);
     }
 
     private static void worst() {
@@ -491,6 +550,29 @@ public final class YearsTest {
         z.years(20);
         z.set(1, 99);
         DUE.is("behind YEAR 60", z.breach(0, false), 61);
+    }
+
+    /** Under LEVEL 0 MOST is 1: by RATE 10 and PUSH 1 nine thousandths creep away in a YEAR. */
+    private static void breachAtItsLastYear() {
+        int[] sizes = new int[61];
+        sizes[0] = 1000;
+        for (int i = 1; i <= 60; i++) {
+            sizes[i] = sizes[i - 1] - sizes[i - 1] * 10 * 9 / 10000;
+        }
+        DUE.is("it creeps to the last", sizes[59] > sizes[60] ? 1 : 0, 1);
+        breachOfGas(2 * sizes[59], 59);
+        breachOfGas(2 * sizes[60], 60);
+        breachOfGas(2 * sizes[60] - 1, -9);
+    }
+
+    private static void breachOfGas(int gas, int due) {
+        SaltRooms x = Build.strong();
+        Build.cavern(x, 5, 0, 1000);
+        x.set(1, 10);
+        DUE.is("gas in", x.fill(0, true, gas, true), gas);
+        DUE.is("PUSH", x.of(0, 5), 1);
+        x.close(0);
+        DUE.is("breach of " + gas, x.breach(0, false), due);
     }
 
     private static void breachRefused() {
